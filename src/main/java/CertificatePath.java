@@ -16,14 +16,17 @@ public final class CertificatePath {
     private static final int MOST_EXTENSIONS = 4;
     private static final int MOST_OCTETS = 20;
 
-    /** A label inside a list of names lies ten elements deep; the outermost end is that of the buffer. */
-    private static final int MOST_OPEN = 12;
+    /** A label in a list of names: certificate, body, FOURTH, list, extension, octets, bounds, FIRST, name, label. */
+    private static final int MOST_OPEN = 10;
 
     private static final int MOST_NUMBER = 2147483647;
     private static final int MOST_EXPONENT = 1000;
     private static final int MOST_BYTE = 255;
     private static final int ALL_USAGES = 255;
     private static final int SIGNING_USAGE = 1 << 5;
+
+    private static final int HASH_FACTOR = 263;
+    private static final int HASH_DIVISOR = 1000003;
 
     private static final int SHORT_LENGTH_MOST = 127;
     private static final int LONG_LENGTH_MARK = 129;
@@ -53,8 +56,10 @@ public final class CertificatePath {
     private static final int MAY_NOT_SIGN = 8;
     private static final int USAGE_MISSING = 9;
 
-    private final ByteRow buffer;
     private final Reader reader;
+
+    /** The reader's own row: what is fed is read where it lies. */
+    private final ByteRow buffer;
 
     /** One more than are kept: accept() must read a ninth to tell FULL from NONE. */
     private final Certificate[] certificates;
@@ -64,8 +69,8 @@ public final class CertificatePath {
     private int linked;
 
     public CertificatePath() {
-        buffer = new ByteRow();
-        reader = new Reader(buffer);
+        reader = new Reader();
+        buffer = reader.row;
         certificates = new Certificate[MOST_CERTIFICATES + 1];
         for (int i = 0; i < certificates.length; i++) {
             certificates[i] = new Certificate();
@@ -254,7 +259,7 @@ public final class CertificatePath {
         int hashBetween(int from, int to) {
             int h = 0;
             for (int k = from; k < to; k++) {
-                h = (263 * h + bytes[k] + 1) % 1000003;
+                h = (HASH_FACTOR * h + bytes[k] + 1) % HASH_DIVISOR;
             }
             return h;
         }
@@ -304,17 +309,20 @@ public final class CertificatePath {
         }
     }
 
-    /** Goes through a row element by element; after the first fault it finds nothing more, so callers ask once. */
+    /** Goes through its row element by element; after the first fault it finds nothing more, so callers ask once. */
     private static final class Reader {
         private final ByteRow row;
+
+        /** Where the open elements end, the innermost at depth; at 0 stands the end of the row. */
         private final int[] ends;
+
         private int depth;
         private int at;
         private boolean sound;
 
-        Reader(ByteRow row) {
-            this.row = row;
-            ends = new int[MOST_OPEN];
+        Reader() {
+            row = new ByteRow();
+            ends = new int[MOST_OPEN + 1];
             depth = 0;
             at = 0;
             sound = false;
@@ -428,7 +436,7 @@ public final class CertificatePath {
     }
 
     private static final class Name {
-        /** The letters of a label, eight bits each: no letter is 0, so that two labels are alike just if their numbers are. */
+        /** Eight bits a letter: no letter is 0, so that two labels are the same just if their numbers are. */
         private final long[] labels;
 
         private int size;
