@@ -3,37 +3,7 @@ import java.math.BigInteger;
 /** Promise 16: check, its conditions 1 to 9 and their order. */
 public final class CheckTest {
     private static final Due DUE = new Due();
-    private static final int TIME = 50;
-
-    /** A path in the making, in which each certificate is signed by the key before it. */
-    private static final class Chain {
-        private final CertificatePath x = new CertificatePath();
-        private final int anchor;
-        private long modulus = 101;
-        private long exponent = 3;
-
-        Chain(String anchorName) {
-            anchor = new Draft().names("other", anchorName).key(101, 3).signature(77).keptBy(x);
-        }
-
-        /** The key of each one is another, so that a key that is not handed on shows. */
-        Chain next(Draft d) {
-            long signerModulus = modulus;
-            long signerExponent = exponent;
-            modulus = modulus == 101 ? 107 : modulus == 107 ? 113 : 101;
-            d.key(modulus, exponent).signedBy(signerModulus, signerExponent);
-            DUE.answer("link", x.link(d.keptBy(x)), true);
-            return this;
-        }
-
-        void due(String what, int want) {
-            DUE.answer(what, x.check(anchor, TIME, 0), want);
-        }
-
-        void due(String what, int time, int usage, int want) {
-            DUE.answer(what + ": check(, " + time + ", " + usage + ")", x.check(anchor, time, usage), want);
-        }
-    }
+    private static final int TIME = Chain.TIME;
 
     public static void main(String[] args) {
         wrongArguments();
@@ -61,6 +31,10 @@ public final class CheckTest {
         DUE.end();
     }
 
+    private static Chain chain(String anchorName) {
+        return new Chain(DUE, anchorName);
+    }
+
     private static Draft from(String issuer, String subject) {
         return new Draft().names(issuer, subject);
     }
@@ -70,7 +44,7 @@ public final class CheckTest {
     }
 
     private static void wrongArguments() {
-        Chain c = new Chain("a");
+        Chain c = chain("a");
         DUE.answer("an empty path", c.x.check(0, TIME, 0), -1);
         c.next(from("a", "b"));
         c.due("right", 0);
@@ -144,7 +118,7 @@ public final class CheckTest {
     }
 
     private static void keysAreHandedOn() {
-        Chain c = new Chain("a").next(holder("a", "b")).next(holder("b", "c")).next(holder("c", "d"));
+        Chain c = chain("a").next(holder("a", "b")).next(holder("b", "c")).next(holder("c", "d"));
         c.next(holder("d", "e")).next(holder("e", "f")).next(from("f", "g"));
         c.due("six in a row", 0);
         CertificatePath x = new CertificatePath();
@@ -160,13 +134,13 @@ public final class CheckTest {
         long[][] ranges = {{5, 100}, {0, 0}, {7, 7}, {9, 8}, {0, most}, {most, most}, {most, 0}};
         int[] times = {least, -1, 0, 1, 4, 5, 6, 7, 8, 9, 10, 99, 100, 101, most - 1, most};
         for (long[] range : ranges) {
-            Chain c = new Chain("a").next(from("a", "b").times(range[0], range[1]));
+            Chain c = chain("a").next(from("a", "b").times(range[0], range[1]));
             for (int time : times) {
                 boolean right = range[0] <= time && time <= range[1];
                 c.due(range[0] + " to " + range[1], time, 0, right ? 0 : 2);
             }
         }
-        Chain c = new Chain("a").next(holder("a", "b").times(10, 20)).next(from("b", "c").times(15, 30));
+        Chain c = chain("a").next(holder("a", "b").times(10, 20)).next(from("b", "c").times(15, 30));
         c.due("both", 15, 0, 0);
         c.due("both", 20, 0, 0);
         c.due("the first only", 14, 0, 16 + 2);
@@ -178,12 +152,12 @@ public final class CheckTest {
         String[] names = {"", "a", "a.b", "b.a", "a.b.c", "aa", "b"};
         for (String p : names) {
             for (String q : names) {
-                new Chain(p).next(from(q, "z")).due("holder " + p + ", issuer " + q, p.equals(q) ? 0 : 3);
-                new Chain("x").next(holder("x", p)).next(from(q, "z"))
+                chain(p).next(from(q, "z")).due("holder " + p + ", issuer " + q, p.equals(q) ? 0 : 3);
+                chain("x").next(holder("x", p)).next(from(q, "z"))
                     .due("second holder " + p + ", issuer " + q, p.equals(q) ? 0 : 16 + 3);
             }
         }
-        new Chain("a").next(holder("a", "b")).next(from("a", "c")).due("the holder before the last", 16 + 3);
+        chain("a").next(holder("a", "b")).next(from("a", "c")).due("the holder before the last", 16 + 3);
     }
 
     private static Draft bounded(int[] bounds) {
@@ -191,9 +165,9 @@ public final class CheckTest {
     }
 
     private static void lastUnder(int[] bounds, String subject, boolean right) {
-        new Chain("a").next(bounded(bounds)).next(from("b", subject))
+        chain("a").next(bounded(bounds)).next(from("b", subject))
             .due("the last is " + subject, right ? 0 : 16 + 4);
-        new Chain("a").next(bounded(bounds)).next(holder("b", subject)).next(holder(subject, subject))
+        chain("a").next(bounded(bounds)).next(holder("b", subject)).next(holder(subject, subject))
             .next(from(subject, subject)).due("all behind it are " + subject, right ? 0 : 16 + 4);
     }
 
@@ -214,8 +188,8 @@ public final class CheckTest {
         lastUnder(three, "t", false);
         lastUnder(Encoding.permitted(""), "", true);
         lastUnder(Encoding.permitted(""), "x", true);
-        new Chain("a").next(bounded(Encoding.permitted("p"))).due("its own bounds, as the last", 0);
-        new Chain("a").next(bounded(Encoding.permitted("p"))).next(from("b", "p"))
+        chain("a").next(bounded(Encoding.permitted("p"))).due("its own bounds, as the last", 0);
+        chain("a").next(bounded(Encoding.permitted("p"))).next(from("b", "p"))
             .due("its own bounds do not bind it", 0);
     }
 
@@ -244,7 +218,7 @@ public final class CheckTest {
     }
 
     private static Chain underTwo(int[] first, int[] second, String subject) {
-        return new Chain("a").next(holder("a", "p").with(first)).next(holder("p", "p.q").with(second))
+        return chain("a").next(holder("a", "p").with(first)).next(holder("p", "p.q").with(second))
             .next(from("p.q", subject));
     }
 
@@ -264,21 +238,21 @@ public final class CheckTest {
     }
 
     private static void selfIssuedAndBounds() {
-        new Chain("a").next(holder("a", "b").with(Encoding.permitted("p"))).next(holder("b", "b"))
+        chain("a").next(holder("a", "b").with(Encoding.permitted("p"))).next(holder("b", "b"))
             .next(from("b", "p")).due("self-issued in the middle is not bound", 0);
-        new Chain("a").next(holder("a", "b").with(Encoding.excluded("b"))).next(holder("b", "b"))
+        chain("a").next(holder("a", "b").with(Encoding.excluded("b"))).next(holder("b", "b"))
             .next(from("b", "p")).due("self-issued in the middle is not excluded", 0);
-        new Chain("a").next(holder("a", "b").with(Encoding.permitted("p"))).next(from("b", "b"))
+        chain("a").next(holder("a", "b").with(Encoding.permitted("p"))).next(from("b", "b"))
             .due("self-issued as the last is bound", 16 + 4);
-        new Chain("a").next(holder("a", "b").with(Encoding.excluded("b"))).next(from("b", "b"))
+        chain("a").next(holder("a", "b").with(Encoding.excluded("b"))).next(from("b", "b"))
             .due("self-issued as the last is excluded", 16 + 4);
-        new Chain("a").next(holder("a", "b").with(Encoding.permitted("p"))).next(holder("b", "b"))
+        chain("a").next(holder("a", "b").with(Encoding.permitted("p"))).next(holder("b", "b"))
             .next(from("b", "q")).due("the bounds hold behind a self-issued one", 32 + 4);
-        new Chain("a").next(holder("a", "a").with(Encoding.permitted("p"))).next(from("a", "q"))
+        chain("a").next(holder("a", "a").with(Encoding.permitted("p"))).next(from("a", "q"))
             .due("the bounds of a self-issued one hold", 16 + 4);
-        new Chain("a").next(holder("a", "a").with(Encoding.excluded("p"))).next(from("a", "p"))
+        chain("a").next(holder("a", "a").with(Encoding.excluded("p"))).next(from("a", "p"))
             .due("what a self-issued one excludes is excluded", 16 + 4);
-        new Chain("").next(holder("", "").with(Encoding.excluded(""))).next(holder("", ""))
+        chain("").next(holder("", "").with(Encoding.excluded(""))).next(holder("", ""))
             .next(from("", "")).due("the empty name is a name, too", 32 + 4);
     }
 
@@ -287,32 +261,32 @@ public final class CheckTest {
         for (int number : others) {
             int[] critical = Encoding.extension(number, true, Encoding.bytes(1));
             int[] plain = Encoding.extension(number, false, Encoding.bytes(1));
-            new Chain("a").next(from("a", "b").with(critical)).due("critical " + number, 5);
-            new Chain("a").next(from("a", "b").with(plain)).due("not critical " + number, 0);
-            new Chain("a").next(holder("a", "b").with(critical)).next(from("b", "c")).due("first critical " + number, 5);
-            new Chain("a").next(holder("a", "b").with(plain)).next(from("b", "c")).due("first plain " + number, 0);
-            new Chain("a").next(holder("a", "b")).next(from("b", "c").with(critical)).due("then critical " + number, 16 + 5);
+            chain("a").next(from("a", "b").with(critical)).due("critical " + number, 5);
+            chain("a").next(from("a", "b").with(plain)).due("not critical " + number, 0);
+            chain("a").next(holder("a", "b").with(critical)).next(from("b", "c")).due("first critical " + number, 5);
+            chain("a").next(holder("a", "b").with(plain)).next(from("b", "c")).due("first plain " + number, 0);
+            chain("a").next(holder("a", "b")).next(from("b", "c").with(critical)).due("then critical " + number, 16 + 5);
         }
         int[] basic = Encoding.extension(1, true, Encoding.sequence(Encoding.TRUE));
         int[] usage = Encoding.extension(2, true, Encoding.bits(5));
         int[] bounds = Encoding.extension(3, true, Encoding.sequence(Encoding.names(160, "")));
-        new Chain("a").next(from("a", "b").with(basic, usage, bounds)).next(from("b", "c").with(basic, usage, bounds))
+        chain("a").next(from("a", "b").with(basic, usage, bounds)).next(from("b", "c").with(basic, usage, bounds))
             .due("the known ones may be critical", 0);
         int[] plain = Encoding.extension(7, false, Encoding.bytes());
         int[] critical = Encoding.extension(9, true, Encoding.bytes());
-        new Chain("a").next(from("a", "b").with(basic, usage, plain, critical)).due("the fourth is critical", 5);
-        new Chain("a").next(from("a", "b").with(critical, usage, plain)).due("the first is critical", 5);
+        chain("a").next(from("a", "b").with(basic, usage, plain, critical)).due("the fourth is critical", 5);
+        chain("a").next(from("a", "b").with(critical, usage, plain)).due("the first is critical", 5);
     }
 
     private static void authorities() {
         int[] none = Encoding.extension(1, false, Encoding.sequence());
-        new Chain("a").next(from("a", "b")).next(from("b", "c")).due("no BASIC", 6);
-        new Chain("a").next(from("a", "b").with(none)).next(from("b", "c")).due("no authority", 6);
-        new Chain("a").next(holder("a", "b")).next(from("b", "c")).due("an authority", 0);
-        new Chain("a").next(from("a", "b").with(none)).due("none is needed as the last", 0);
-        new Chain("a").next(holder("a", "b")).next(from("b", "c").with(none)).next(from("c", "d"))
+        chain("a").next(from("a", "b")).next(from("b", "c")).due("no BASIC", 6);
+        chain("a").next(from("a", "b").with(none)).next(from("b", "c")).due("no authority", 6);
+        chain("a").next(holder("a", "b")).next(from("b", "c")).due("an authority", 0);
+        chain("a").next(from("a", "b").with(none)).due("none is needed as the last", 0);
+        chain("a").next(holder("a", "b")).next(from("b", "c").with(none)).next(from("c", "d"))
             .due("no authority in the middle", 16 + 6);
-        new Chain("a").next(from("a", "a")).next(from("a", "c")).due("a self-issued one needs it, too", 6);
+        chain("a").next(from("a", "a")).next(from("a", "c")).due("a self-issued one needs it, too", 6);
     }
 
     private static Draft reaching(String issuer, String subject, int reach) {
@@ -320,53 +294,53 @@ public final class CheckTest {
     }
 
     private static void reaches() {
-        new Chain("a").next(reaching("a", "b", 0)).next(from("b", "c")).due("reach 0, the last behind it", 0);
-        new Chain("a").next(reaching("a", "b", 0)).next(holder("b", "c")).next(from("c", "d"))
+        chain("a").next(reaching("a", "b", 0)).next(from("b", "c")).due("reach 0, the last behind it", 0);
+        chain("a").next(reaching("a", "b", 0)).next(holder("b", "c")).next(from("c", "d"))
             .due("reach 0, one between", 16 + 7);
-        new Chain("a").next(reaching("a", "b", 1)).next(holder("b", "c")).next(from("c", "d"))
+        chain("a").next(reaching("a", "b", 1)).next(holder("b", "c")).next(from("c", "d"))
             .due("reach 1, one between", 0);
-        new Chain("a").next(reaching("a", "b", 1)).next(holder("b", "c")).next(holder("c", "d")).next(from("d", "e"))
+        chain("a").next(reaching("a", "b", 1)).next(holder("b", "c")).next(holder("c", "d")).next(from("d", "e"))
             .due("reach 1, two between", 32 + 7);
-        new Chain("a").next(reaching("a", "b", 2)).next(holder("b", "c")).next(holder("c", "d")).next(from("d", "e"))
+        chain("a").next(reaching("a", "b", 2)).next(holder("b", "c")).next(holder("c", "d")).next(from("d", "e"))
             .due("reach 2, two between", 0);
-        new Chain("a").next(reaching("a", "b", 1)).next(reaching("b", "c", 9)).next(holder("c", "d")).next(from("d", "e"))
+        chain("a").next(reaching("a", "b", 1)).next(reaching("b", "c", 9)).next(holder("c", "d")).next(from("d", "e"))
             .due("a greater reach does not lengthen", 32 + 7);
-        new Chain("a").next(reaching("a", "b", 9)).next(reaching("b", "c", 0)).next(holder("c", "d")).next(from("d", "e"))
+        chain("a").next(reaching("a", "b", 9)).next(reaching("b", "c", 0)).next(holder("c", "d")).next(from("d", "e"))
             .due("a smaller reach shortens", 32 + 7);
-        new Chain("a").next(reaching("a", "b", Integer.MAX_VALUE)).next(holder("b", "c")).next(holder("c", "d"))
+        chain("a").next(reaching("a", "b", Integer.MAX_VALUE)).next(holder("b", "c")).next(holder("c", "d"))
             .next(holder("d", "e")).next(holder("e", "f")).next(from("f", "g")).due("the greatest reach", 0);
-        new Chain("a").next(reaching("a", "b", 3)).next(holder("b", "c")).next(holder("c", "d"))
+        chain("a").next(reaching("a", "b", 3)).next(holder("b", "c")).next(holder("c", "d"))
             .next(holder("d", "e")).next(holder("e", "f")).next(from("f", "g")).due("reach 3, four between", 64 + 7);
-        new Chain("a").next(reaching("a", "b", 4)).next(holder("b", "c")).next(holder("c", "d"))
+        chain("a").next(reaching("a", "b", 4)).next(holder("b", "c")).next(holder("c", "d"))
             .next(holder("d", "e")).next(holder("e", "f")).next(from("f", "g")).due("reach 4, four between", 0);
-        new Chain("a").next(reaching("a", "b", 0)).next(reaching("b", "c", 0)).due("a reach of the last is nothing", 0);
+        chain("a").next(reaching("a", "b", 0)).next(reaching("b", "c", 0)).due("a reach of the last is nothing", 0);
     }
 
     private static void selfIssuedAndReach() {
-        new Chain("a").next(reaching("a", "b", 0)).next(holder("b", "b")).next(from("b", "c"))
+        chain("a").next(reaching("a", "b", 0)).next(holder("b", "b")).next(from("b", "c"))
             .due("a self-issued one takes nothing", 0);
-        new Chain("a").next(reaching("a", "b", 0)).next(holder("b", "b")).next(holder("b", "c")).next(from("c", "d"))
+        chain("a").next(reaching("a", "b", 0)).next(holder("b", "b")).next(holder("b", "c")).next(from("c", "d"))
             .due("the rest is 0 yet behind it", 32 + 7);
-        new Chain("a").next(reaching("a", "b", 1)).next(holder("b", "b")).next(holder("b", "c")).next(from("c", "d"))
+        chain("a").next(reaching("a", "b", 1)).next(holder("b", "b")).next(holder("b", "c")).next(from("c", "d"))
             .due("the rest is 1 yet behind it", 0);
-        new Chain("a").next(reaching("a", "a", 0)).next(holder("a", "b")).next(from("b", "c"))
+        chain("a").next(reaching("a", "a", 0)).next(holder("a", "b")).next(from("b", "c"))
             .due("the reach of a self-issued one counts", 16 + 7);
-        new Chain("a").next(reaching("a", "a", 1)).next(holder("a", "b")).next(from("b", "c"))
+        chain("a").next(reaching("a", "a", 1)).next(holder("a", "b")).next(from("b", "c"))
             .due("the reach 1 of a self-issued one suffices", 0);
-        new Chain("a").next(reaching("a", "b", 0)).next(reaching("b", "b", 5)).next(holder("b", "c")).next(from("c", "d"))
+        chain("a").next(reaching("a", "b", 0)).next(reaching("b", "b", 5)).next(holder("b", "c")).next(from("c", "d"))
             .due("a self-issued one does not lengthen", 32 + 7);
     }
 
     private static void usagesOfHolders() {
-        new Chain("a").next(holder("a", "b").with(Encoding.usage(5))).next(from("b", "c")).due("5", 0);
-        new Chain("a").next(holder("a", "b").with(Encoding.usage(0, 1, 2, 3, 4, 6, 7))).next(from("b", "c"))
+        chain("a").next(holder("a", "b").with(Encoding.usage(5))).next(from("b", "c")).due("5", 0);
+        chain("a").next(holder("a", "b").with(Encoding.usage(0, 1, 2, 3, 4, 6, 7))).next(from("b", "c"))
             .due("all but 5", 8);
-        new Chain("a").next(holder("a", "b").with(Encoding.usage())).next(from("b", "c")).due("the empty set", 8);
-        new Chain("a").next(holder("a", "b").with(Encoding.usage(2))).next(from("b", "c")).due("2 is not 5", 8);
-        new Chain("a").next(holder("a", "a").with(Encoding.usage(1))).next(from("a", "c")).due("self-issued", 8);
-        new Chain("a").next(holder("a", "b")).next(holder("b", "c").with(Encoding.usage(6))).next(from("c", "d"))
+        chain("a").next(holder("a", "b").with(Encoding.usage())).next(from("b", "c")).due("the empty set", 8);
+        chain("a").next(holder("a", "b").with(Encoding.usage(2))).next(from("b", "c")).due("2 is not 5", 8);
+        chain("a").next(holder("a", "a").with(Encoding.usage(1))).next(from("a", "c")).due("self-issued", 8);
+        chain("a").next(holder("a", "b")).next(holder("b", "c").with(Encoding.usage(6))).next(from("c", "d"))
             .due("the second", 16 + 8);
-        Chain c = new Chain("a").next(holder("a", "b").with(Encoding.usage(5))).next(from("b", "c"));
+        Chain c = chain("a").next(holder("a", "b").with(Encoding.usage(5))).next(from("b", "c"));
         c.due("what is asked for binds only the last", TIME, 1, 0);
     }
 
@@ -379,12 +353,12 @@ public final class CheckTest {
                     numbers[at++] = k;
                 }
             }
-            Chain c = new Chain("a").next(holder("a", "b")).next(from("b", "c").with(Encoding.usage(numbers)));
+            Chain c = chain("a").next(holder("a", "b")).next(from("b", "c").with(Encoding.usage(numbers)));
             for (int asked = 0; asked < 256; asked++) {
                 c.due("usage " + have, TIME, asked, (have & asked) == asked ? 0 : 16 + 9);
             }
         }
-        Chain c = new Chain("a").next(from("a", "b").with(Encoding.usage(0)));
+        Chain c = chain("a").next(from("a", "b").with(Encoding.usage(0)));
         c.due("5 is not needed as the last", TIME, 1, 0);
     }
 
@@ -412,14 +386,14 @@ public final class CheckTest {
             x.link(from("z", "z").keptBy(x));
             DUE.answer("draft " + k + " in the middle", x.check(0, TIME, 255), 16 + inTheMiddle[k]);
         }
-        new Chain("a").next(reaching("a", "b", 1)).next(holder("b", "c").with(Encoding.usage(1))).next(from("c", "d"))
+        chain("a").next(reaching("a", "b", 1)).next(holder("b", "c").with(Encoding.usage(1))).next(from("c", "d"))
             .due("8 when 7 holds", 16 + 8);
     }
 
     private static void theFirstPlaceCounts() {
-        Chain c = new Chain("a").next(from("a", "b")).next(from("b", "c").times(0, 1)).next(from("c", "d"));
+        Chain c = chain("a").next(from("a", "b")).next(from("b", "c").times(0, 1)).next(from("c", "d"));
         c.due("condition 6 at 0 comes before condition 2 at 1", 6);
-        c = new Chain("a").next(holder("a", "b")).next(holder("b", "c")).next(holder("c", "d")).next(holder("d", "e"))
+        c = chain("a").next(holder("a", "b")).next(holder("b", "c")).next(holder("c", "d")).next(holder("d", "e"))
             .next(holder("e", "f")).next(from("f", "g").with(Encoding.usage()));
         c.due("the last of six", TIME, 1, 80 + 9);
     }
@@ -456,7 +430,7 @@ public final class CheckTest {
     }
 
     private static void checkChangesNothing() {
-        Chain c = new Chain("a").next(reaching("a", "b", 1)).next(holder("b", "c")).next(from("c", "d"));
+        Chain c = chain("a").next(reaching("a", "b", 1)).next(holder("b", "c")).next(from("c", "d"));
         int size = c.x.length();
         for (int k = 0; k < 5; k++) {
             c.due("again", 0);

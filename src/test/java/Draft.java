@@ -90,11 +90,7 @@ final class Draft {
     }
 
     int bodyHash() {
-        long h = 0;
-        for (int b : body()) {
-            h = (263 * h + b + 1) % 1000003;
-        }
-        return (int) h;
+        return Encoding.hash(body());
     }
 
     int[] bytes() {

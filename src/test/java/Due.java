@@ -13,6 +13,13 @@ final class Due {
         answer(call, got ? 1L : 0L, want ? 1L : 0L);
     }
 
+    void text(String what, String got, String want) {
+        if (!got.equals(want)) {
+            wrong++;
+            System.out.println(what + " is " + got + ", due is " + want);
+        }
+    }
+
     void bytes(String call, CertificatePath x, int... want) {
         answer(call + ": length()", x.length(), want.length);
         for (int k = 0; k < want.length; k++) {

@@ -120,10 +120,24 @@ final class Encoding {
         return extension(3, false, sequence(names(160, permitted), names(161, excluded)));
     }
 
+    static int hash(int[] bytes) {
+        long h = 0;
+        for (int b : bytes) {
+            h = (263 * h + b + 1) % 1000003;
+        }
+        return (int) h;
+    }
+
+    /** Four bytes a call, since an object is good for 512 calls only. */
     static void load(CertificatePath x, int[] bytes) {
         x.trim(0);
-        for (int b : bytes) {
-            x.feed(b, 1);
+        for (int at = 0; at < bytes.length; at += 4) {
+            int n = Math.min(4, bytes.length - at);
+            int w = 0;
+            for (int k = at; k < at + n; k++) {
+                w = w << 8 | bytes[k];
+            }
+            x.feed(w, n);
         }
     }
 }

@@ -84,13 +84,18 @@ public final class RandomTest {
             due("recode(" + i + ")", x.recode(i), y.recode(i));
             sameBuffer();
         }
+        DUE.answer(run + "it keeps to the calls that the document allows", calls <= CALLS, true);
     }
 
     private void sameBuffer() {
-        DUE.answer(run + "length()", x.length(), y.length());
-        for (int k = -1; k <= y.length(); k++) {
-            DUE.answer(run + "byteAt(" + k + ")", x.byteAt(k), y.byteAt(k));
-        }
+        due("length()", x.length(), y.length());
+        due("hash of all", x.hash(0, y.length()), y.hash(0, y.length()));
+    }
+
+    private void reset() {
+        x.reset();
+        y.reset();
+        calls++;
     }
 
     private void load(int[] bytes) {
@@ -126,14 +131,13 @@ public final class RandomTest {
 
     /** An anchor and a path behind it, in which now and then something is wrong. */
     private void chain() {
-        x.reset();
-        y.reset();
+        reset();
         keys.clear();
         subjects.clear();
         Draft anchor = new Draft().names(someName(), someName());
         keep(anchor, "", 100);
         int size = 1 + random.nextInt(6);
-        for (int p = 0; p < size && calls < CALLS - 60; p++) {
+        for (int p = 0; p < size && calls < CALLS - 120; p++) {
             if (link(p, p == size - 1) && chance(30)) {
                 check();
             }
@@ -306,9 +310,7 @@ public final class RandomTest {
             case 12 -> check();
             default -> {
                 if (chance(10)) {
-                    x.reset();
-                    y.reset();
-                    calls++;
+                    reset();
                 }
                 int k = chance(90) ? random.nextInt(y.length() + 2) - 1 : oneOf(EDGES);
                 due("byteAt(" + k + ")", x.byteAt(k), y.byteAt(k));

@@ -21,12 +21,14 @@ public final class RecodeTest {
         x.trim(0);
         DUE.answer(what + ": recode", x.recode(i), bytes.length);
         DUE.bytes(what, x, bytes);
+        int hash = x.hash(0, bytes.length);
         Encoding.load(x, Encoding.repeated(170, 160));
         DUE.answer(what + ": recode over a full buffer", x.recode(i), bytes.length);
         DUE.bytes(what + " over a full buffer", x, bytes);
         DUE.answer(what + ": accepted again", x.accept(), 1);
+        x.trim(0);
         DUE.answer(what + ": recoded again", x.recode(1), bytes.length);
-        DUE.bytes(what + " again", x, bytes);
+        DUE.answer(what + ": hash of what was recoded again", x.hash(0, bytes.length), hash);
     }
 
     private static void plainOnes() {
@@ -122,8 +124,9 @@ public final class RecodeTest {
             drafts[i].keptBy(x);
         }
         for (int i = 7; i >= 0; i--) {
-            DUE.answer("recode " + i, x.recode(i), drafts[i].bytes().length);
-            DUE.bytes("several " + i, x, drafts[i].bytes());
+            int[] bytes = drafts[i].bytes();
+            DUE.answer("recode " + i, x.recode(i), bytes.length);
+            DUE.answer("hash of several " + i, x.hash(0, bytes.length), Encoding.hash(bytes));
         }
         DUE.answer("count stays", x.count(), 8);
     }
