@@ -541,6 +541,32 @@ public final class CheckEdgeTest {
             }
             chain("a").next(d).due("the critical one is extension " + place, 5);
         }
+        chain("a").next(from("a", "b").with(Encoding.extension(9, false, Encoding.bytes()), Encoding.extension(10, false, Encoding.bytes()),
+            Encoding.extension(0, false, Encoding.bytes()), Encoding.extension(4, false, Encoding.bytes()))).due("four, none critical", 0);
+        chain("a").next(from("a", "b").with(Encoding.extension(9, false, Encoding.bytes()), Encoding.extension(3, true,
+            Encoding.sequence(Encoding.names(160, ""))), Encoding.extension(2, true, Encoding.bits(5)), Encoding.extension(1, true,
+            Encoding.sequence()))).due("four, the known ones critical", 0);
+        nothingIsCriticalFromBefore();
+    }
+
+    /** Nothing is left of critical extensions that stood in what was kept before reset(), or was refused. */
+    private static void nothingIsCriticalFromBefore() {
+        int[] plain = Encoding.extension(8, false, Encoding.bytes());
+        Draft critical = new Draft().with(Encoding.extension(9, true, Encoding.bytes()), Encoding.extension(10, true, Encoding.bytes()));
+        CertificatePath x = new CertificatePath();
+        for (int i = 0; i < 3; i++) {
+            critical.keptBy(x);
+        }
+        x.reset();
+        new Draft().names("q", "a").key(2, 1).keptBy(x);
+        Draft[] drafts = {from("a", "b"), from("a", "b").with(plain), from("a", "b"), from("a", "b").with(plain)};
+        for (Draft d : drafts) {
+            x.link(d.signedBy(2, 1).keptBy(x));
+            DUE.answer("number " + (x.count() - 1), x.check(0, TIME, 0), 0);
+            x.unlink();
+            Encoding.load(x, Encoding.join(critical.bytes(), Encoding.bytes(0)));
+            DUE.answer("accept() of a wrong one", x.accept(), -1);
+        }
     }
 
     /** "6 It has BASIC, and its subject is an AUTHORITY", "If it is not the last one". */

@@ -13,6 +13,7 @@ public final class ElementEdgeTest {
         otherBeginningsOfALengthAreWrong();
         otherBeginningsAreWrongInEveryElement();
         contentsEndWhereTheirElementEnds();
+        nothingIsReadBehindAFullBuffer();
         nothingStandsBeforeBetweenOrBehind();
         nothingStandsTwice();
         whatIsPerhapsThereMayBeAbsent();
@@ -190,6 +191,47 @@ public final class ElementEdgeTest {
             greatest[1] = 127;
             TAKEN.wrong("the length 127 of " + one.told(), whole.with(one, greatest));
         }
+    }
+
+    /** The same where the buffer is full, so that there is no byte at all behind what is cut off. */
+    private static void nothingIsReadBehindAFullBuffer() {
+        int[] number = Encoding.integer(0);
+        int[][] extensions = {
+            Encoding.extension(1, true, Encoding.sequence(Encoding.TRUE, Encoding.integer(128))),
+            Encoding.extension(2, true, Encoding.bits(0)),
+            Encoding.extension(3, false, Encoding.sequence(Encoding.names(160, "a.b"), Encoding.names(161, "c"))),
+            Encoding.extension(128, true, Encoding.repeated(129, 9)),
+        };
+        for (int[] extension : extensions) {
+            Tree tree = Tree.of(extension);
+            for (int size = 0; size < tree.content().length; size++) {
+                String told = "cut at " + size + " of " + java.util.Arrays.toString(extension);
+                int[] rough = Encoding.join(Encoding.bytes(48, size), java.util.Arrays.copyOf(tree.content(), size));
+                TAKEN.wrong(told, endingAt160(rough, Encoding.bytes()));
+                TAKEN.wrong(told + ", the lengths follow", endingAt160(tree.cut(size), Encoding.bytes()));
+            }
+            TAKEN.wrong("no signature", endingAt160(extension, Encoding.bytes()));
+            TAKEN.right("a signature", endingAt160(extension, number));
+        }
+        int[][] signatures = {{2}, {2, 0}, {2, 1}, {2, 4}, {2, 127}, {2, 128}, {2, 129}, {2, 129, 128}, {2, 2, 1}, {2, 4, 1, 2, 3}};
+        for (int[] signature : signatures) {
+            TAKEN.wrong("the signature " + java.util.Arrays.toString(signature), endingAt160(extensions[0], signature));
+        }
+    }
+
+    /** 160 bytes, in which the extension is the last thing in the body and the signature the last of all. */
+    private static int[] endingAt160(int[] extension, int[] signature) {
+        String name = "abcdefgh.abcdefgh.abcdefgh.abcdefgh";
+        for (int filling = 0; filling <= 40; filling++) {
+            Draft d = new Draft().names(name, name).with(
+                Encoding.extension(10, false, Encoding.repeated(0, Math.min(20, filling))),
+                Encoding.extension(11, false, Encoding.repeated(0, Math.max(0, filling - 20))), extension);
+            d.signature = signature;
+            if (d.bytes().length == 160) {
+                return d.bytes();
+            }
+        }
+        throw new IllegalStateException("160 bytes can't be reached");
     }
 
     /** "the content of an element is exactly what is said, nothing before, between or behind it". */

@@ -13,6 +13,11 @@ public final class SpoiledTest {
         spoil("longer than 127", new Draft().names("abcdefgh.b", "abcdefgh.c").with(
             Encoding.extension(5, true, Encoding.repeated(2, 20)), Encoding.extension(4, false, Encoding.repeated(48, 18)),
             Encoding.bounds(new String[] {"abc", "d"}, new String[] {""})));
+        Draft full = new Draft().names("abcdefgh.b", "abcdefgh.c").signature(2147483647).with(
+            Encoding.extension(5, true, Encoding.repeated(2, 20)), Encoding.extension(4, false, Encoding.repeated(48, 20)),
+            Encoding.extension(3, true, Encoding.sequence(Encoding.names(160, "abcdefgh"), Encoding.names(161, "", "ghij"))));
+        DUE.answer("bytes of a full buffer", full.bytes().length, 160);
+        spoil("a full buffer", full);
         DUE.end();
     }
 

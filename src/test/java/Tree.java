@@ -18,7 +18,7 @@ final class Tree {
         }
     }
 
-    /** The bytes must be a right certificate. */
+    /** The bytes must be a right certificate, or a right extension. */
     static Tree of(int[] bytes) {
         int from = bytes[1] == 129 ? 3 : 2;
         return new Tree(bytes[0], slice(bytes, from, bytes.length), null);
@@ -88,6 +88,20 @@ final class Tree {
             row[n] = n == k ? more : one.parts.get(n < k ? n : n - 1).bytes();
         }
         return with(one, Encoding.element(one.tag, row));
+    }
+
+    /** This element with only so many of the first bytes of its content; the lengths of what is cut within it follow. */
+    int[] cut(int size) {
+        int left = size;
+        int[] row = {};
+        for (Tree part : parts) {
+            int[] bytes = part.bytes();
+            int taken = Math.min(left, bytes.length);
+            boolean isCut = taken < bytes.length && taken >= 2;
+            row = Encoding.join(row, isCut ? part.cut(taken - 2) : slice(bytes, 0, taken));
+            left -= taken;
+        }
+        return Encoding.element(tag, parts.isEmpty() ? slice(content, 0, size) : row);
     }
 
     /** Where it stands: the tags from the outermost inwards. */
