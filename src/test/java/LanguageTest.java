@@ -26,7 +26,7 @@ import javax.tools.JavaCompiler;
 import javax.tools.StandardJavaFileManager;
 import javax.tools.ToolProvider;
 
-/** The rules of LANGUAGE.md that can be seen from the source, most of them held narrower than they must be. */
+/** What the source shows of the rules 2, 4, 5, 6, 8, 11 and 12 of LANGUAGE.md, held narrower than they must be. */
 public final class LanguageTest {
     private static final String PROGRAM = "src/main/java/CertificatePath.java";
     private static final int MOST_CLASSES = 12;
